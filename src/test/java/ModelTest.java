@@ -4,7 +4,7 @@ import java.util.Random;
 
 /** Random runs of 512 calls, each answer against a second telling of the document that counts everything anew. */
 public final class ModelTest {
-    private static final int RUNS = 3000;
+    private static final int RUNS = 2000;
     private static final int CALLS = 512;
     private static final int[] FAR = {-1, Integer.MIN_VALUE, Integer.MAX_VALUE, -2, 200, 5000, 5001, 1001, 1 << 30};
 
@@ -94,18 +94,21 @@ public final class ModelTest {
                 int what = pick(9);
                 tell("count(" + what + ")", x.count(what), model.count(what));
             } else {
-                plan();
+                plan(kind);
             }
         }
 
-        private void plan() {
+        private void plan(int kind) {
             int v = random.nextBoolean() ? pick(40) : pick(1001);
             int c = random.nextBoolean() ? pick(100) : pick(1001);
-            int n = model.best(v, c);
-            tell("best(" + v + ", " + c + ")", x.best(v, c), n);
-            tell("gain(" + v + ", " + c + ")", x.gain(v, c), model.gain(v, c));
-            int i = pick(n + 1);
-            tell("kept(" + v + ", " + c + ", " + i + ")", x.kept(v, c, i), model.kept(v, c, i));
+            if (kind == 12) {
+                tell("best(" + v + ", " + c + ")", x.best(v, c), model.best(v, c));
+            } else if (random.nextBoolean()) {
+                tell("gain(" + v + ", " + c + ")", x.gain(v, c), model.gain(v, c));
+            } else {
+                int i = pick(model.best(v, c) + 1);
+                tell("kept(" + v + ", " + c + ", " + i + ")", x.kept(v, c, i), model.kept(v, c, i));
+            }
         }
 
         private void move(int kind) {
@@ -536,37 +539,48 @@ public final class ModelTest {
             return found;
         }
 
-        /** The gain of the best plan of exactly n sets, by the weeks in which they are there. */
-        int ofSets(int n, int v, int c) {
-            int[] there = new int[20];
+        /** What the first n sets bring, by how many of them are there in each week. */
+        int ofSets(int n, int[] weeks, int v, int c) {
             int sum = -n * c;
             for (int i = 0; i < n; i++) {
-                int weeks = weeks(v, i);
-                sum += sale[weeks];
-                for (int week = 0; week < weeks; week++) {
-                    there[week]++;
-                }
+                sum += sale[weeks[i]];
             }
             for (int week = 0; week < 20; week++) {
-                sum += v * Math.min(there[week], wanted[week]);
+                int there = 0;
+                for (int i = 0; i < n; i++) {
+                    there += weeks[i] > week ? 1 : 0;
+                }
+                sum += v * Math.min(there, wanted[week]);
             }
             return sum;
+        }
+
+        int[] allWeeks(int v) {
+            int[] weeks = new int[50];
+            for (int i = 0; i < 50; i++) {
+                weeks[i] = weeks(v, i);
+            }
+            return weeks;
         }
 
         int best(int v, int c) {
             if (!in(v, 0, 1000) || !in(c, 0, 1000)) {
                 return -1;
             }
+            int[] weeks = allWeeks(v);
             int found = 0;
+            int most = 0;
             for (int n = 1; n <= 50; n++) {
-                found = ofSets(n, v, c) > ofSets(found, v, c) ? n : found;
+                int sum = ofSets(n, weeks, v, c);
+                found = sum > most ? n : found;
+                most = Math.max(most, sum);
             }
             return found;
         }
 
         int gain(int v, int c) {
             int n = best(v, c);
-            return n < 0 ? -1 : ofSets(n, v, c);
+            return n < 0 ? -1 : ofSets(n, allWeeks(v), v, c);
         }
 
         int kept(int v, int c, int i) {
