@@ -147,10 +147,12 @@ public final class VolumeHouse {
     }
 
     public int go(int n) {
-        if (!within(n, 0, MOST_DAYS_AT_ONCE) || now + n > LAST_DAY) {
+        if (!within(n, 0, MOST_DAYS_AT_ONCE)) {
             return NONE;
         }
-        for (int day = 0; day < n; day++) {
+        // The last DAY never ends: beyond it no BOX comes and nobody has a turn.
+        int ending = Math.min(n, LAST_DAY - now);
+        for (int day = 0; day < ending; day++) {
             boolean cameBack = moveBoxes();
             // Days alone only end subscriptions: after the first TURNS of a call
             // nobody can get a COPY till another one is back on the SHELF.

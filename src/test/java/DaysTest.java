@@ -5,6 +5,7 @@ public final class DaysTest {
     public static void main(String[] args) {
         arguments();
         lastDay();
+        nowStopsAtTheLastDay();
         nothingBeforeTheDayEnds();
         byClass();
         byWaiting();
@@ -41,13 +42,38 @@ public final class DaysTest {
         }
         DUE.is("go(99)", x.go(99), 4999);
         x.wish(0, 0);
-        DUE.is("go beyond 5000", x.go(2), -1);
-        DUE.is("changes nothing", x.count(0), 4999);
-        DUE.is("no turn", x.told(0, 1), 0);
         DUE.is("go to 5000", x.go(1), 5000);
         DUE.is("a turn", x.told(0, 1), 1);
-        DUE.is("go beyond it", x.go(1), -1);
+        DUE.is("from the day that ended", x.copy(0, 5), 4999);
         DUE.is("go(0)", x.go(0), 5000);
+    }
+
+    private static void nowStopsAtTheLastDay() {
+        VolumeHouse x = house(1, 2);
+        x.reader(0, 3, 5000);
+        x.reader(0, 0, 5000);
+        for (int i = 1; i < 50; i++) {
+            x.go(100);
+        }
+        x.go(96);
+        x.wish(0, 0);
+        x.go(2);
+        DUE.is("before", x.count(0), 4998);
+        DUE.is("days to go", x.copy(0, 6), 2);
+        DUE.is("go beyond 5000", x.go(100), 5000);
+        DUE.is("now", x.count(0), 5000);
+        DUE.is("the box came", x.copy(0, 0), 1);
+        DUE.is("on the last day that ended", x.copy(0, 5), 4999);
+        x.back(0);
+        x.wish(1, 0);
+        DUE.is("no day ends", x.go(1), 5000);
+        DUE.is("nor many", x.go(100), 5000);
+        DUE.is("no box moves", x.copy(0, 6), 3);
+        DUE.is("nobody has a turn", x.copy(1, 0), 0);
+        DUE.is("still waits", x.wished(1, 3), 5000);
+        DUE.is("now stays", x.count(0), 5000);
+        DUE.is("another n", x.go(101), -1);
+        DUE.is("another n below", x.go(-1), -1);
     }
 
     private static void nothingBeforeTheDayEnds() {

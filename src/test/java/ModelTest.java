@@ -39,9 +39,19 @@ public final class ModelTest {
         }
 
         void all() {
-            for (int i = 0; i < CALLS && !due.anyWrong(); i++) {
+            int early = goNearTheLastDay();
+            for (int i = early; i < CALLS && !due.anyWrong(); i++) {
                 one();
             }
+        }
+
+        /** Every seventh run begins there, since few would come to it; answers how many calls that took. */
+        private int goNearTheLastDay() {
+            int calls = seed % 7 == 0 ? 49 : 0;
+            for (int i = 0; i < calls; i++) {
+                tell("go(100)", x.go(100), model.go(100));
+            }
+            return calls;
         }
 
         private int pick(int below) {
@@ -317,10 +327,13 @@ public final class ModelTest {
         }
 
         int go(int n) {
-            if (!in(n, 0, 100) || now + n > 5000) {
+            if (!in(n, 0, 100)) {
                 return -1;
             }
             for (int i = 0; i < n; i++) {
+                if (now == 5000) {
+                    return now;
+                }
                 boxes();
                 turns();
                 now++;
